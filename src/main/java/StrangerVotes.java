@@ -666,9 +666,11 @@ public final class StrangerVotes {
         }
 
         private void loseOldest() {
-            Now oldest = rowAt(0);
-            for (int i = 1; i < rows.length; i++) rows[i - 1] = rows[i];
-            rows[rows.length - 1] = oldest;
+            for (int i = 1; i < rows.length; i++) {
+                Now oldest = rows[i - 1];
+                rows[i - 1] = rows[i];
+                rows[i] = oldest;
+            }
             known = rows.length - 1;
         }
 

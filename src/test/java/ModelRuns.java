@@ -42,8 +42,20 @@ public final class ModelRuns {
         int kind = random.nextInt(20);
         if (kind == 0) call("type", argument(256), 0, 0);
         else if (kind == 1 && random.nextInt(4) == 0) call(random.nextBoolean() ? "clear" : "town", 0, 0, 0);
+        else if (kind == 2 && random.nextInt(3) == 0) often();
         else if (kind < 11) call(DEEDS[random.nextInt(DEEDS.length)], argument(4), argument(4), 0);
         else look();
+    }
+
+    /** One deed again and again: hours up to the last, undone up to none. */
+    private void often() {
+        String deed = random.nextBoolean() ? "undo" : random.nextBoolean() ? "hour" : "holds";
+        int times = 2 + random.nextInt(14);
+        int which = argument(4);
+        for (int i = 0; i < times; i++) {
+            call(deed, which, 0, 0);
+            look();
+        }
     }
 
     private void look() {

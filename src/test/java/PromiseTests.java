@@ -13,6 +13,7 @@ public final class PromiseTests {
         townFaults();
         townFaultsOfNumbers();
         townReadAnew();
+        townMended();
         train();
         group();
         votes();
@@ -128,6 +129,9 @@ public final class PromiseTests {
         fault("x1 2 0;", 0);
         fault("  tt1 2 0;", 2);
         fault("cc2 1 0;", 0);
+        fault("ta1 2 0;", 0);
+        fault("tz1 2 0;", 0);
+        fault("t1 2 0r1 0 1;", 6);
         fault("t1 2 0;c2 1 0;", 7);
         fault("c2 1 0; c2 1 0;", 8);
         fault("r1 0 1;c2 1 0;", 7);
@@ -215,6 +219,24 @@ public final class PromiseTests {
         due.is("back(0)", x.back(0), STATE);
         due.is("back(1)", x.back(1), STATE);
         due.is("trace() stays", x.trace(), 1011);
+        due.is("a text that tells nothing", read(x, ""), 0);
+        check(x, "count", new int[] {3, 2, 0, 0, 0, 0, 0});
+        due.is("now(1)", x.now(1), 3);
+        due.is("town()", read(x, "c6 5 20;t1 1 5;"), 2);
+        due.is("a text that tells nothing", read(x, " "), 0);
+        check(x, "count", new int[] {3, 2, 0, 0, 0, 0, 0});
+        due.is("now(1)", x.now(1), 3);
+    }
+
+    /** A text that is mended: what stays of it is typed on. */
+    private static void townMended() {
+        due.part("promise 4, mended");
+        StrangerVotes x = new StrangerVotes();
+        due.is("too early", read(x, "t1 5"), -14);
+        due.is("too early", read(x, " 2"), -16);
+        due.is("at last", read(x, ";"), 1);
+        check(x, "train 0", new int[] {1, 5, 2, 0});
+        due.is("count(6)", x.count(6), 0);
     }
 
     private static void train() {
@@ -628,6 +650,9 @@ public final class PromiseTests {
         x.hour();
         due.is("one", x.mark(0, 1), 5);
         due.is("liberal", x.mark(1, 1), 7);
+        due.is("liberal of the last", x.mark(1, 2), 1);
+        due.is("liberal of none", x.mark(1, 0), 0);
+        due.is("liberal of the first train", made("t3 5 1;").mark(1, 1), 1);
         due.is("tory", x.mark(2, 1), 3);
         due.is("guard", x.mark(3, 1), 14);
         due.is("porter", x.mark(4, 1), 4);
