@@ -586,7 +586,8 @@ public final class StrangerVotes {
         }
 
         private int byteAt(int i) {
-            return isIn(i, length) && isIn(i, bytes.length) ? bytes[i] : 0;
+            // Looks for itself: isIn() from here would go nine calls deep.
+            return i >= 0 && i < length && i < bytes.length ? bytes[i] : 0;
         }
 
         private static boolean isLetter(int c) {

@@ -6,12 +6,11 @@ import java.lang.reflect.Modifier;
 import java.nio.file.Files;
 import java.nio.file.Path;
 import java.util.HashSet;
+import java.util.List;
 import java.util.Set;
 import java.util.TreeSet;
-import java.util.regex.Matcher;
-import java.util.regex.Pattern;
 
-/** The public face, and the rules of ../shared/LANGUAGE.md that can be seen in the classes or in the source's text. */
+/** The public face, and the rules of ../shared/LANGUAGE.md that can be seen in the classes, the source's text or its tree. */
 public final class LanguageTests {
     private static final Path SOURCE = Path.of("src/main/java/StrangerVotes.java");
     private static final String[] FACE = {"type(int) int", "clear() int", "town() int", "train(int,int) int",
@@ -20,16 +19,13 @@ public final class LanguageTests {
         "laws(int) int", "odds(int,int,int) int", "hears(int,int) int", "forget() int", "likings(int) int",
         "ask() int", "mark(int,int) int", "keep(int) int", "back(int) int", "count(int) int", "trace() long"};
     private static final String[] CONSTANTS = {"BAD", "STATE", "FULL", "NONE", "NO"};
-    private static final String[] FORBIDDEN = {"throw", "throws", "try", "catch", "finally", "synchronized", "assert",
-        "package", "import", "native", "volatile", "transient", "protected", "instanceof Object", "Object", "System\\.out",
-        "Thread", "Random", "\\w+Exact", "->", "::", "hashCode", "toString", "NaN", "@\\w+"};
     private static final Due due = new Due();
 
     public static void main(String[] args) throws IOException {
         face();
         classesInside();
-        source(bare(Files.readString(SOURCE)));
-        methodLengths(bare(Files.readString(SOURCE)));
+        source(Files.readString(SOURCE));
+        tree();
         due.end();
     }
 
@@ -96,42 +92,21 @@ public final class LanguageTests {
         }
     }
 
-    /** The source without comments, and without what stands in texts and signs. */
-    private static String bare(String source) {
-        return source.replaceAll("(?s)/\\*.*?\\*/", "").replaceAll("//[^\\n]*", "")
-            .replaceAll("'(\\\\.|[^'\\\\])'", "' '").replaceAll("\"(\\\\.|[^\"\\\\])*\"", "\"\"");
-    }
-
     private static void source(String source) {
         due.part("the source");
-        for (String word : FORBIDDEN) {
-            String pattern = Character.isLetter(word.charAt(0)) || word.startsWith("\\w") ? "\\b" + word + "\\b" : word;
-            Matcher m = Pattern.compile(pattern).matcher(source);
-            due.holds("no " + word, !m.find());
-        }
-        due.holds("signs 0 .. 127 alone", source.chars().allMatch(c -> c < 128));
-        Matcher library = Pattern.compile("\\b(System|Math|Integer|Long|Arrays|String|StringBuilder)\\.(\\w+)").matcher(source);
-        Set<String> allowed = Set.of("System.arraycopy", "Math.max", "Math.min", "Integer.bitCount",
-            "Integer.numberOfTrailingZeros");
-        while (library.find()) due.holds("library: " + library.group(), allowed.contains(library.group()));
-        // Rows are made in constructors and with fields alone, so that calls make no objects.
-        Matcher made = Pattern.compile("[^\\n]*\\bnew \\w+[^\\n]*").matcher(source);
-        while (made.find()) {
-            String line = made.group().strip();
-            due.holds("made by a call: " + line, line.matches("(private )?(final )?\\w+(\\[\\])? \\w+ = new .*;")
-                || line.equals("for (int i = 0; i < rows.length; i++) rows[i] = new Now();"));
-        }
+        due.holds("signs 1 .. 127 alone", source.chars().allMatch(c -> c > 0 && c < 128));
+        due.holds("no package line", !source.startsWith("package ") && !source.contains("\npackage "));
+        due.holds("no import but of lists and arrays",
+            source.lines().filter(line -> line.startsWith("import ")).allMatch(line -> line.matches(
+                "import java\\.util\\.(ArrayList|List|Arrays|Iterator);")));
     }
 
-    private static void methodLengths(String source) {
-        due.part("methods");
-        Matcher m = Pattern.compile("(?m)^( {4}| {8})\\w[^\\n=;]*\\) \\{\\n((?:(?!^\\1\\}).*\\n)*)").matcher(source);
-        int methods = 0;
-        while (m.find()) {
-            methods++;
-            int lines = m.group(2).split("\\n").length;
-            due.holds("at most 60 lines: " + m.group().lines().findFirst().orElse(""), lines <= 60);
-        }
-        due.holds("methods are found", methods > FACE.length);
+    private static void tree() throws IOException {
+        due.part("the tree");
+        LanguageScan scan = LanguageScan.of(SOURCE);
+        for (String fault : scan.faults) due.holds(fault, false);
+        due.holds("methods are found", scan.methods > FACE.length);
+        List<String> deepest = scan.deepestCalls();
+        due.holds("rule 11: calls go at most eight deep: " + deepest, deepest.size() <= 8);
     }
 }
