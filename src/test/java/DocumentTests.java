@@ -62,9 +62,7 @@ public final class DocumentTests {
             }
             // Numbers of parts, and joints between quoted words, are no sentences.
             String words = row.toString().replaceAll("======== \\d", "").strip();
-            if (words.matches("(?s).*[A-Za-z0-9].*") && !words.startsWith("An object is used for at most 512 calls")) {
-                rows.add(words);
-            }
+            if (words.matches("(?s).*[A-Za-z0-9].*")) rows.add(words);
             row.setLength(0);
         }
         return rows;

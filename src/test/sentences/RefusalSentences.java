@@ -15,6 +15,17 @@ final class RefusalSentences extends Bench {
         due.is("NO", StrangerVotes.NO, -1000000);
     }
 
+    @Sentence("An object is used for at most 512 calls after it has been made; what later calls answer is free.")
+    static void theLastOf512Calls() {
+        StrangerVotes x = told("t0 5 1;");
+        for (int i = 0; i < 251; i++) {
+            due.is("hour()", x.hour(), 1);
+            due.is("undo()", x.undo(), 0);
+        }
+        due.is("hour(), the 511th call", x.hour(), 1);
+        due.is("votes(1, 0), the 512th call", x.votes(1, 0), 5);
+    }
+
     @Sentence(REFUSED)
     static void badIsAheadOfFull() {
         StrangerVotes x = new StrangerVotes();
